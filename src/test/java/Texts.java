@@ -1,0 +1,43 @@
+/** Texts that several tests use. */
+final class Texts {
+    /** Two copper layers: the least stack. */
+    static final String LEAST = "copper A 1 1\ncore C 1 1\ncopper B 1 1\n";
+
+    /** Fourteen layers, six of them copper, with all kinds. */
+    static final String SIX =
+            "mask M 20 10\n"
+            + "copper L1 17.5 10\n"
+            + "prepreg P 100 12.5\n"
+            + "copper L2 35 5\n"
+            + "core C 0.800 0\n"
+            + "copper L3 0035 05\n"
+            + "spare S\n"
+            + "prepreg P 0100.0 12.5\n"
+            + "copper L4 35 5\n"
+            + "core C 0.8 0.0\n"
+            + "copper L5 35 5.0\n"
+            + "prepreg P 100 12.5\n"
+            + "copper L6 17.5 10\n"
+            + "mask M 20.000 10\n"
+            + "press L2 L5\n"
+            + "press L4 L5\n"
+            + "press L2 L3\n"
+            + "via L2 L5\n"
+            + "via L1 L6\n"
+            + "via L4 L5\n";
+
+    private Texts() {
+    }
+
+    /** A stack of so many copper layers, C0, C1 .., cores between. */
+    static String coppers(int count) {
+        StringBuilder text = new StringBuilder();
+        for (int i = 0; i < count; i++) {
+            if (i > 0) {
+                text.append("core k 1 1\n");
+            }
+            text.append("copper C").append(i).append(" 1 1\n");
+        }
+        return text.toString();
+    }
+}
