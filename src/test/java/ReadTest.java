@@ -7,6 +7,8 @@ public final class ReadTest {
         units();
         readings();
         whatStays();
+        shorterBehindLonger();
+        fullTexts();
         faultsOfWords();
         faultsOfNames();
         faultsOfNumbers();
@@ -91,6 +93,32 @@ public final class ReadTest {
         CHECKS.due("shares of one more stack", x.copper(0, 1, 1), false);
     }
 
+    /** What an earlier text left behind the end of this one is no part of it. */
+    private static void shorterBehindLonger() {
+        int layersEnd = Texts.SIX.indexOf("press");
+        for (int end = 0; end < layersEnd; end++) {
+            String part = Texts.SIX.substring(0, end);
+            LayerStacks fresh = new LayerStacks();
+            Checks.feed(fresh, part);
+            LayerStacks used = Checks.stackOf(Texts.SIX);
+            Checks.feed(used, part);
+            CHECKS.due("part " + end + " behind a longer text", used.read(), fresh.read());
+        }
+    }
+
+    private static void fullTexts() {
+        String text = Texts.full(3000);
+        LayerStacks x = Checks.stackOf(text);
+        CHECKS.due("its length", text.length(), 3000);
+        CHECKS.due("written", Checks.written(x), text);
+        CHECKS.due("the last character", x.write(2999), '\n');
+        CHECKS.due("behind it", x.write(3000), LayerStacks.NONE);
+        CHECKS.due("the last layer", x.role(79), 31);
+        CHECKS.due("the last pressing", x.pressed(20, 1), 31);
+        CHECKS.dueFault(Texts.full(3001).substring(0, 3000));
+        CHECKS.dueFault(Texts.full(2999).substring(0, 2998));
+    }
+
     private static void faultsOfWords() {
         CHECKS.dueFault("@");
         CHECKS.dueFault("@\n");
@@ -125,6 +153,12 @@ public final class ReadTest {
         CHECKS.dueFault("copper @-");
         CHECKS.dueFault("copper A@-B");
         CHECKS.dueFault("copper A@");
+        CHECKS.dueFault("copper AZaz09@");
+        for (char character : "@[`{/:_ .".toCharArray()) {
+            LayerStacks x = new LayerStacks();
+            Checks.feed(x, "copper " + character);
+            CHECKS.due("name of " + character, x.read(), -8);
+        }
         CHECKS.dueFault("copper A@\n");
         CHECKS.dueFault("copper ABCDEFGH@I 1 1");
         CHECKS.dueFault("copper ABCDEFGH@");
@@ -255,6 +289,7 @@ public final class ReadTest {
         CHECKS.dueFault(four + "press C0 C1\n@press C1 C2");
         CHECKS.dueFault(four + "press C0 C1\n@press C1 C2?");
         CHECKS.dueFault(four + "press C0 C1\npress C1 @C");
+        CHECKS.dueFault(four + "press C1 C2\n@press C0 C1\n");
         CHECKS.dueFault(four + "press C0 C2\n@press C1 C3\n");
         CHECKS.dueFault(four + "press C1 C3\n@press C0 C2\n");
         CHECKS.dueFault(four + "press C0 C1\n@press C0 C1\n");

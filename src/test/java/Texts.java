@@ -40,4 +40,29 @@ final class Texts {
         }
         return text.toString();
     }
+
+    /** A text of 80 layers, 32 of them copper, 20 pressings and 4 vias, so many characters long (2,700 to 3,016). */
+    static String full(int length) {
+        int cut = 3016 - length;
+        StringBuilder text = new StringBuilder();
+        for (int copper = 0; copper < 32; copper++) {
+            for (int i = copper == 0 ? 0 : copper <= 17 ? 2 : 1; i > 0; i--) {
+                int letters = Math.max(1, 8 - cut);
+                cut -= 8 - letters;
+                text.append("prepreg ").append("zZaA9900".substring(0, letters)).append(" 9999.999 49.9\n");
+            }
+            text.append("copper ").append(longName(copper)).append(" 9999.999 49.9\n");
+        }
+        for (int last = 1; last <= 20; last++) {
+            text.append("press ").append(longName(0)).append(' ').append(longName(last)).append('\n');
+        }
+        for (int last = 1; last <= 4; last++) {
+            text.append("via ").append(longName(0)).append(' ').append(longName(last)).append('\n');
+        }
+        return text.toString();
+    }
+
+    private static String longName(int copper) {
+        return "Copper" + (10 + copper);
+    }
 }
