@@ -9,6 +9,7 @@ final class Checks {
     private static final String STATE = "IllegalStateException";
     private static final String ARGUMENT = "IllegalArgumentException";
 
+    private String sentence = "";
     private int wrong = 0;
 
     static void feed(LayerStacks x, String text) {
@@ -19,10 +20,14 @@ final class Checks {
         }
     }
 
+    static int read(LayerStacks x, String text) {
+        feed(x, text);
+        return x.read();
+    }
+
     static LayerStacks stackOf(String text) {
         LayerStacks x = new LayerStacks();
-        feed(x, text);
-        int layers = x.read();
+        int layers = read(x, text);
         if (layers < 0) {
             throw new AssertionError("fault at " + (-1 - layers) + " of\n" + text);
         }
@@ -31,19 +36,53 @@ final class Checks {
 
     static String written(LayerStacks x) {
         StringBuilder text = new StringBuilder();
-        for (int i = 0; x.write(i) != LayerStacks.NONE; i++) {
-            text.append((char) x.write(i));
+        int i = 0;
+        for (int character = x.write(0); character != LayerStacks.NONE; character = x.write(i)) {
+            text.append((char) character);
+            i++;
         }
         return text.toString();
     }
 
-    /** "answer 5", or the simple name of what was thrown. */
+    /** "5", or the simple name of what was thrown. */
     static String outcome(Call call) {
         try {
-            return "answer " + call.answer();
+            return Long.toString(call.answer());
         } catch (RuntimeException e) {
             return e.getClass().getSimpleName();
         }
+    }
+
+    /** What an object answers, of up to six layers, three coppers and pressings and all lists: about 100 calls and the text's. */
+    static String answers(LayerStacks x) {
+        StringBuilder all = new StringBuilder();
+        for (int i = 0; i < 6; i++) {
+            int layer = i;
+            tell(all, () -> x.kind(layer), () -> x.role(layer), () -> x.skew(layer));
+            tell(all, () -> x.thick(layer, 0, 0), () -> x.thick(layer, 1, 0), () -> x.thick(layer, 1, 1));
+        }
+        for (int i = 0; i < 3; i++) {
+            int k = i;
+            tell(all, () -> x.pressed(k, 0), () -> x.pressed(k, 1), () -> x.pressed(k, 2));
+            tell(all, () -> x.via(k, 0) ? 1 : 0, () -> x.via(k, 1) ? 1 : 0, () -> x.via(k, 2) ? 1 : 0);
+        }
+        for (int i = 0; i < 9; i++) {
+            int list = i;
+            tell(all, () -> x.changes(list));
+        }
+        tell(all, () -> x.match(), () -> x.sum(0, 0), () -> x.sum(0, 1), () -> x.sum(1, 0), () -> x.sum(1, 1));
+        return all + (outcome(() -> x.write(0)).equals(STATE) ? "no stack" : written(x));
+    }
+
+    private static void tell(StringBuilder all, Call... calls) {
+        for (Call call : calls) {
+            all.append(outcome(call)).append(' ');
+        }
+    }
+
+    /** The document's words for the checks that follow: told with each answer that is wrong. */
+    void says(String words) {
+        sentence = words;
     }
 
     void due(String what, long got, long want) {
@@ -57,7 +96,7 @@ final class Checks {
     void due(String what, String got, String want) {
         if (!got.equals(want)) {
             wrong++;
-            System.out.println(what + ": got " + got + ", due is " + want);
+            System.out.println("\"" + sentence + "\": " + what + ": got " + got + ", due is " + want);
         }
     }
 
@@ -73,22 +112,38 @@ final class Checks {
         due(what, outcome(call), ARGUMENT);
     }
 
-    /** The fault's place of a text on a new object, which may stand in the text as a mark, '@'. */
+    /** That a call has this outcome, and that the object answers all else as it did. */
+    void dueUnchanged(String what, LayerStacks x, Call call, String want) {
+        String former = answers(x);
+        due(what, outcome(call), want);
+        due("all answers behind " + what, answers(x), former);
+    }
+
+    void dueUnchangedIndex(String what, LayerStacks x, Call call) {
+        dueUnchanged(what, x, call, INDEX);
+    }
+
+    void dueUnchangedArgument(String what, LayerStacks x, Call call) {
+        dueUnchanged(what, x, call, ARGUMENT);
+    }
+
+    /** The fault's place of a text on a new object: that of a mark in it, '@', or its length. */
     void dueFault(String marked) {
         int place = marked.indexOf('@');
         String text = place < 0 ? marked : marked.substring(0, place) + marked.substring(place + 1);
+        dueFaultAt(text, place < 0 ? text.length() : place);
+    }
+
+    void dueFaultAt(String text, int place) {
         LayerStacks x = new LayerStacks();
-        feed(x, text);
-        int got = x.read();
-        due("fault in <" + marked + ">", got, -1 - (place < 0 ? text.length() : place));
-        due("text stays after <" + marked + ">", x.read(), got);
-        due("no stack after <" + marked + ">", outcome(() -> x.kind(0)), INDEX);
+        int got = read(x, text);
+        due("fault in <" + text + ">", got, -1 - place);
+        due("text stays after <" + text + ">", x.read(), got);
+        dueIndex("no stack after <" + text + ">", () -> x.kind(0));
     }
 
     void dueLayers(String text, int layers) {
-        LayerStacks x = new LayerStacks();
-        feed(x, text);
-        due("layers of <" + text + ">", x.read(), layers);
+        due("layers of <" + text + ">", read(new LayerStacks(), text), layers);
     }
 
     void end() {

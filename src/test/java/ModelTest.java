@@ -3,7 +3,10 @@ import java.util.ArrayList;
 import java.util.List;
 import java.util.Random;
 
-/** Random texts, whole and spoilt, and random questions: the answers are the model's. */
+/**
+ * Random texts, whole and spoilt, and random questions: the answers are the model's. An object is
+ * asked more than 512 times here, as the class does not count its calls.
+ */
 public final class ModelTest {
     private static final Checks CHECKS = new Checks();
     private static final Random RANDOM = new Random(20261115);
@@ -232,7 +235,7 @@ public final class ModelTest {
             for (int call = 0; call < 60; call++) {
                 int method = RANDOM.nextInt(15);
                 String got = Checks.outcome(() -> anyCall(x, method));
-                boolean isFine = got.startsWith("answer ") || allowed(method).contains(got);
+                boolean isFine = got.matches("-?[0-9]+") || allowed(method).contains(got);
                 CHECKS.due("method " + method + " threw " + got, isFine, true);
             }
         }

@@ -3,6 +3,9 @@ final class Texts {
     /** Two copper layers: the least stack. */
     static final String LEAST = "copper A 1 1\ncore C 1 1\ncopper B 1 1\n";
 
+    /** Few layers, of which no two answer the same, with a press and a via: for what must not change. */
+    static final String FEW = "copper A 1 1\ncore K 2 2\ncopper B 3 3\nspare S\nprepreg P 4 4\ncopper C 5 5\npress A B\nvia A B\n";
+
     /** Fourteen layers, six of them copper, with all kinds. */
     static final String SIX =
             "mask M 20 10\n"
@@ -29,6 +32,11 @@ final class Texts {
     private Texts() {
     }
 
+    /** The least stack with this line, which has no line feed, in place of its core. */
+    static String between(String line) {
+        return LEAST.replace("core C 1 1", line);
+    }
+
     /** A stack of so many copper layers, C0, C1 .., cores between. */
     static String coppers(int count) {
         StringBuilder text = new StringBuilder();
@@ -37,6 +45,22 @@ final class Texts {
                 text.append("core k 1 1\n");
             }
             text.append("copper C").append(i).append(" 1 1\n");
+        }
+        return text.toString();
+    }
+
+    /** A line for each letter: c copper (named A, B ..), k core, p prepreg, m mask, s spare. */
+    static String ofKinds(String kinds) {
+        StringBuilder text = new StringBuilder();
+        char name = 'A';
+        for (char kind : kinds.toCharArray()) {
+            switch (kind) {
+                case 'c' -> text.append("copper ").append(name++).append(" 1 1\n");
+                case 'k' -> text.append("core K 1 1\n");
+                case 'p' -> text.append("prepreg P 1 1\n");
+                case 'm' -> text.append("mask M 1 1\n");
+                default -> text.append("spare S\n");
+            }
         }
         return text.toString();
     }

@@ -3,9 +3,13 @@ public final class WriteTest {
     private static final Checks CHECKS = new Checks();
 
     public static void main(String[] args) {
-        writings();
-        numbers();
-        edges();
+        lines();
+        pressingsAndVias();
+        thicknesses();
+        spreads();
+        characters();
+        noStack();
+        whatDoesNotMatter();
         CHECKS.end();
     }
 
@@ -14,56 +18,93 @@ public final class WriteTest {
         CHECKS.due("written again", Checks.written(Checks.stackOf(want)), want);
     }
 
-    private static void writings() {
+    private static void lines() {
+        CHECKS.says("WRITTEN: the LINES");
         due(Texts.LEAST, Texts.LEAST);
+        due(Texts.FEW, Texts.FEW);
+        String names = "mask 0 1 1\ncopper abcdefgh 1 1\nspare 01234567\ncore 0 1 1\ncopper ABCwxyz9 1 1\nmask zZ 1 1\n";
+        due(names, names);
+    }
+
+    private static void pressingsAndVias() {
+        CHECKS.says("PRESSINGS in their order (but for the last one of all)");
+        String four = Texts.ofKinds("ckckckc");
+        due(four + "press A D\n", four);
+        due(four + "press A C\npress A D\npress A B\n", four + "press A B\npress A C\n");
+        due(four + "press C D\npress A B\n", four + "press A B\npress C D\n");
+        due(four + "press B D\npress C D\n", four + "press C D\npress B D\n");
+        due(Texts.LEAST + "press A B\n", Texts.LEAST);
+        CHECKS.says("VIAS in the order of the text");
+        due(four + "press C D\npress A B\nvia C D\nvia A D\nvia A B\n",
+                four + "press A B\npress C D\nvia C D\nvia A D\nvia A B\n");
+        due(four + "via A D\n", four + "via A D\n");
         due(Texts.LEAST + "press A B\nvia A B\n", Texts.LEAST + "via A B\n");
-        due(Texts.SIX,
-                "mask M 20 10\ncopper L1 17.5 10\nprepreg P 100 12.5\ncopper L2 35 5\ncore C 0.8 0\n"
-                + "copper L3 35 5\nspare S\nprepreg P 100 12.5\ncopper L4 35 5\ncore C 0.8 0\n"
-                + "copper L5 35 5\nprepreg P 100 12.5\ncopper L6 17.5 10\nmask M 20 10\n"
-                + "press L2 L3\npress L4 L5\npress L2 L5\nvia L2 L5\nvia L1 L6\nvia L4 L5\n");
-        String names = "copper abcdefgh 1 1\nspare 01234567\ncore 0 1 1\ncopper ABCwxyz9 1 1\n";
-        due(names + "press abcdefgh ABCwxyz9\nvia abcdefgh ABCwxyz9\n", names + "via abcdefgh ABCwxyz9\n");
-        due(Texts.coppers(32), Texts.coppers(32));
     }
 
     private static void number(String thickness, String spread, String want) {
-        due(Texts.LEAST.replace("core C 1 1", "core C " + thickness + " " + spread),
-                Texts.LEAST.replace("core C 1 1", "core C " + want));
+        due(Texts.between("core C " + thickness + " " + spread), Texts.between("core C " + want));
     }
 
-    private static void numbers() {
-        number("0", "0", "0 0");
-        number("0000.000", "00.0", "0 0");
-        number("0.001", "0.1", "0.001 0.1");
-        number("0.010", "00.9", "0.01 0.9");
-        number("0.100", "01.0", "0.1 1");
-        number("9999.999", "50.0", "9999.999 50");
-        number("1000.0", "10.0", "1000 10");
-        number("0100.050", "49.9", "100.05 49.9");
-        number("10", "20", "10 20");
-        number("007.070", "09.9", "7.07 9.9");
+    private static void thicknesses() {
+        CHECKS.says("THICKNESS without . and digits that change nothing");
+        String[][] told = {{"0", "0"}, {"00", "0"}, {"0000", "0"}, {"0.0", "0"}, {"0000.000", "0"}, {"0.001", "0.001"},
+            {"0.010", "0.01"}, {"0.100", "0.1"}, {"0000.001", "0.001"}, {"1.000", "1"}, {"01.10", "1.1"}, {"10", "10"},
+            {"100", "100"}, {"1000", "1000"}, {"1000.0", "1000"}, {"0100.050", "100.05"}, {"007.070", "7.07"},
+            {"9999.999", "9999.999"}, {"9999.990", "9999.99"}, {"9000.000", "9000"}, {"0010", "10"}};
+        for (String[] pair : told) {
+            number(pair[0], "1", pair[1] + " 1");
+        }
     }
 
-    private static void edges() {
+    private static void spreads() {
+        CHECKS.says("SPREAD without . and digits that change nothing");
+        String[][] told = {{"0", "0"}, {"00", "0"}, {"0.0", "0"}, {"00.0", "0"}, {"0.1", "0.1"}, {"00.9", "0.9"}, {"01", "1"},
+            {"01.0", "1"}, {"10", "10"}, {"10.0", "10"}, {"09.9", "9.9"}, {"20", "20"}, {"49.9", "49.9"}, {"50.0", "50"}};
+        for (String[] pair : told) {
+            number("1", pair[0], "1 " + pair[1]);
+        }
+    }
+
+    private static void characters() {
+        CHECKS.says("The i-th character, from 0, of the stack WRITTEN; NONE behind the last one.");
         LayerStacks x = Checks.stackOf(Texts.LEAST);
-        CHECKS.due("the first", x.write(0), 'c');
-        CHECKS.due("the last", x.write(Texts.LEAST.length() - 1), '\n');
-        CHECKS.due("behind it", x.write(Texts.LEAST.length()), LayerStacks.NONE);
-        CHECKS.due("at 3000", x.write(3000), LayerStacks.NONE);
-        CHECKS.due("far behind it", x.write(Integer.MAX_VALUE), LayerStacks.NONE);
-        CHECKS.dueIndex("ahead of it", () -> x.write(-1));
-        CHECKS.dueIndex("far ahead of it", () -> x.write(Integer.MIN_VALUE));
-        CHECKS.dueIndex("ahead of none", () -> new LayerStacks().write(-1));
-        CHECKS.dueState("of none", () -> new LayerStacks().write(0));
-        CHECKS.dueState("behind none", () -> new LayerStacks().write(Integer.MAX_VALUE));
+        int length = Texts.LEAST.length();
+        for (int i = 0; i < length; i++) {
+            CHECKS.due("character " + i, x.write(i), Texts.LEAST.charAt(i));
+        }
+        for (int i : new int[] {length, length + 1, 2999, 3000, 3001, 65536, Integer.MAX_VALUE}) {
+            CHECKS.due("character " + i, x.write(i), LayerStacks.NONE);
+        }
+        CHECKS.due("the last one ahead of the first one", x.write(length - 1), '\n');
+        CHECKS.due("the first one behind the last one", x.write(0), 'c');
+        CHECKS.says("IndexOutOfBoundsException, when i is below 0");
+        CHECKS.dueIndex("-1", () -> x.write(-1));
+        CHECKS.dueIndex("-2", () -> x.write(-2));
+        CHECKS.dueIndex("the least", () -> x.write(Integer.MIN_VALUE));
+    }
+
+    private static void noStack() {
+        CHECKS.says("IllegalStateException, when there is no stack");
+        LayerStacks x = new LayerStacks();
+        CHECKS.dueState("0", () -> x.write(0));
+        CHECKS.dueState("the most", () -> x.write(Integer.MAX_VALUE));
+        Checks.feed(x, Texts.LEAST);
+        CHECKS.dueState("ahead of read", () -> x.write(0));
+        CHECKS.says("IndexOutOfBoundsException, when i is below 0");
+        CHECKS.dueIndex("without a stack", () -> x.write(-1));
+        CHECKS.due("read", x.read(), 3);
+        CHECKS.due("behind read", x.write(0), 'c');
+    }
+
+    private static void whatDoesNotMatter() {
+        CHECKS.says("of the stack WRITTEN");
+        LayerStacks x = Checks.stackOf(Texts.LEAST);
         x.copper(0, 1, 2);
-        Checks.feed(x, "mask");
-        x.read();
-        CHECKS.due("shares and texts do not matter", Checks.written(x), Texts.LEAST);
-        LayerStacks y = Checks.stackOf(Texts.SIX);
-        Checks.feed(y, Texts.LEAST);
-        y.read();
-        CHECKS.due("a shorter one behind a longer one", Checks.written(y), Texts.LEAST);
+        x.list();
+        CHECKS.due("a fault", Checks.read(x, "mask M 1 1\ncopper Z 1 1\n~") < 0, true);
+        CHECKS.due("shares, lists and texts do not matter", Checks.written(x), Texts.LEAST);
+        LayerStacks y = Checks.stackOf(Texts.FEW);
+        CHECKS.due("a shorter one", Checks.read(y, Texts.LEAST), 3);
+        CHECKS.due("behind a longer one", Checks.written(y), Texts.LEAST);
     }
 }
