@@ -72,7 +72,8 @@ public final class AskTest {
     /** Each SPREAD there is, with thicknesses that have all kinds of divisors of 1000, or none. */
     private static void thickInLowestTerms() {
         CHECKS.says("a fraction in lowest terms");
-        String[] told = {"0", "0.001", "0.002", "0.003", "0.005", "0.008", "0.025", "0.125", "1", "1.024", "9999.998", "9999.999"};
+        String[] told = {"0", "0.001", "0.002", "0.003", "0.005", "0.008", "0.025", "0.125", "1", "1.024",
+            "9999.998", "9999.999"};
         int[] thicknesses = {0, 1, 2, 3, 5, 8, 25, 125, 1000, 1024, 9_999_998, 9_999_999};
         for (int spread = 0; spread <= 500; spread++) {
             String tens = spread / 10 + "." + spread % 10;

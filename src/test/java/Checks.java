@@ -53,7 +53,7 @@ final class Checks {
         }
     }
 
-    /** What an object answers, of up to six layers, three coppers and pressings and all lists: about 100 calls and the text's. */
+    /** What an object answers, of six layers, three coppers and pressings, and all lists: 70 calls and the text's. */
     static String answers(LayerStacks x) {
         StringBuilder all = new StringBuilder();
         for (int i = 0; i < 6; i++) {

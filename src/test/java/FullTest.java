@@ -121,7 +121,8 @@ public final class FullTest {
 
     private static void sums() {
         CHECKS.says("The sum of all LOW (end 0) or HIGH (1) ends");
-        LayerStacks x = Checks.stackOf("copper A 9999.999 50\n" + "core C 9999.999 50\n".repeat(78) + "copper B 9999.999 49.9\n");
+        String cores = "core C 9999.999 50\n".repeat(78);
+        LayerStacks x = Checks.stackOf("copper A 9999.999 50\n" + cores + "copper B 9999.999 49.9\n");
         CHECKS.due("low", x.sum(0, 0) + "/" + x.sum(0, 1), "400009959999/1000");
         CHECKS.due("high", x.sum(1, 0) + "/" + x.sum(1, 1), "1199989880001/1000");
         x.copper(1, 999, 1000);

@@ -120,8 +120,8 @@ public final class ListsTest {
         }
         CHECKS.dueIndex("without a list", () -> Checks.stackOf(Texts.FEW).row(0, 0, 0, 0) ? 1 : 0);
         CHECKS.says("IllegalArgumentException, when low is below 0 or above high");
-        long[][] wrongs = {{-1, 5}, {-1, -1}, {Long.MIN_VALUE, Long.MAX_VALUE}, {Long.MIN_VALUE, Long.MIN_VALUE}, {6, 5},
-            {1, 0}, {0, -1}, {0, Long.MIN_VALUE}, {Long.MAX_VALUE, Long.MAX_VALUE - 1}};
+        long[][] wrongs = {{-1, 5}, {-1, -1}, {Long.MIN_VALUE, Long.MAX_VALUE}, {Long.MIN_VALUE, Long.MIN_VALUE},
+            {6, 5}, {1, 0}, {0, -1}, {0, Long.MIN_VALUE}, {Long.MAX_VALUE, Long.MAX_VALUE - 1}};
         for (long[] wrong : wrongs) {
             rowRefused(0, 0, wrong[0], wrong[1], false);
             rowRefused(1, 5, wrong[0], wrong[1], false);

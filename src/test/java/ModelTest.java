@@ -70,7 +70,8 @@ public final class ModelTest {
             text.append("press ").append(randomPair(coppers)).append('\n');
         }
         for (int i = RANDOM.nextInt(3); i > 0; i--) {
-            text.append("via ").append(RANDOM.nextBoolean() ? randomPair(coppers) : nameOf(0) + " " + nameOf(coppers - 1));
+            String whole = nameOf(0) + " " + nameOf(coppers - 1);
+            text.append("via ").append(RANDOM.nextBoolean() ? randomPair(coppers) : whole);
             text.append('\n');
         }
         return text.toString();

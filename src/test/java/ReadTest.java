@@ -121,7 +121,8 @@ public final class ReadTest {
         CHECKS.says("its stack takes the place of the one that was, shares are 1000, lists are gone");
         String shorter = Texts.LEAST + "via A B\n";
         String tall = "mask M 6 6\ncopper X 7 7\nprepreg P 8 8\ncopper Y 9 9\nmask N 5 5\n";
-        String[] faults = {"", Texts.FEW + "via A B\n", "mask M 9 9\ncopper A 9 9\ncore K 9 9\ncopper B 9 9\ncore K 9 9\n"};
+        String[] faults = {"", Texts.FEW + "via A B\n",
+            "mask M 9 9\ncopper A 9 9\ncore K 9 9\ncopper B 9 9\ncore K 9 9\n"};
         for (String fault : faults) {
             for (int longer = 0; longer < 3; longer++) {
                 LayerStacks x = new LayerStacks();

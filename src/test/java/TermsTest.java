@@ -22,7 +22,8 @@ public final class TermsTest {
     }
 
     private static void layers() {
-        CHECKS.says("LAYERS, numbered from 0 from the highest on, are of a KIND: 0 copper, 1 core, 2 prepreg, 3 mask, 4 spare");
+        CHECKS.says("LAYERS, numbered from 0 from the highest on, are of a KIND:"
+                + " 0 copper, 1 core, 2 prepreg, 3 mask, 4 spare");
         LayerStacks x = Checks.stackOf("mask M 1 1\ncopper A 1 1\ncore K 1 1\nspare S\nprepreg P 1 1\ncopper B 1 1\n");
         int[] kinds = {3, 0, 1, 4, 2, 0};
         for (int layer = 0; layer < kinds.length; layer++) {
@@ -95,7 +96,7 @@ public final class TermsTest {
                 } else {
                     CHECKS.dueFaultAt(named(kind, "" + character), place);
                     // A space, or a spare one's line feed, ends the NAME; the next character is the one.
-                    boolean isEnd = character == ' ' && !kind.equals("spare") || character == '\n' && kind.equals("spare");
+                    boolean isEnd = character == (kind.equals("spare") ? '\n' : ' ');
                     CHECKS.dueFaultAt(named(kind, "n" + character), place + (isEnd ? 2 : 1));
                 }
             }
@@ -220,7 +221,7 @@ public final class TermsTest {
         return true;
     }
 
-    /** The letters of all stacks that begin so go on by one of these; a mask right behind the one copper layer can stand, too. */
+    /** Whether the last layer can stand: all goes on to a stack, or it is a mask behind the one copper layer. */
     private static boolean goesOn(String kinds) {
         for (String rest : List.of("", "c", "kc", "ckc")) {
             if (isStack(kinds + rest)) {
@@ -241,8 +242,8 @@ public final class TermsTest {
 
     /** All rows of up to six kinds. */
     private static void stacks() {
-        CHECKS.says("masks are but the first and the last layer; between two copper ones next to one another there is a core"
-                + " or a prepreg at least, ahead of the first and behind the last one nothing but a mask");
+        CHECKS.says("masks are but the first and the last layer; between two copper ones next to one another there is"
+                + " a core or a prepreg at least, ahead of the first and behind the last one nothing but a mask");
         List<String> all = new ArrayList<>(List.of(""));
         for (int i = 0; i < all.size(); i++) {
             String kinds = all.get(i);

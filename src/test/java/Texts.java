@@ -4,7 +4,8 @@ final class Texts {
     static final String LEAST = "copper A 1 1\ncore C 1 1\ncopper B 1 1\n";
 
     /** Few layers, of which no two answer the same, with a press and a via: for what must not change. */
-    static final String FEW = "copper A 1 1\ncore K 2 2\ncopper B 3 3\nspare S\nprepreg P 4 4\ncopper C 5 5\npress A B\nvia A B\n";
+    static final String FEW =
+            "copper A 1 1\ncore K 2 2\ncopper B 3 3\nspare S\nprepreg P 4 4\ncopper C 5 5\npress A B\nvia A B\n";
 
     /** Fourteen layers, six of them copper, with all kinds. */
     static final String SIX =

@@ -22,7 +22,8 @@ public final class WriteTest {
         CHECKS.says("WRITTEN: the LINES");
         due(Texts.LEAST, Texts.LEAST);
         due(Texts.FEW, Texts.FEW);
-        String names = "mask 0 1 1\ncopper abcdefgh 1 1\nspare 01234567\ncore 0 1 1\ncopper ABCwxyz9 1 1\nmask zZ 1 1\n";
+        String names = "mask 0 1 1\ncopper abcdefgh 1 1\nspare 01234567\ncore 0 1 1\n"
+                + "copper ABCwxyz9 1 1\nmask zZ 1 1\n";
         due(names, names);
     }
 
@@ -58,8 +59,9 @@ public final class WriteTest {
 
     private static void spreads() {
         CHECKS.says("SPREAD without . and digits that change nothing");
-        String[][] told = {{"0", "0"}, {"00", "0"}, {"0.0", "0"}, {"00.0", "0"}, {"0.1", "0.1"}, {"00.9", "0.9"}, {"01", "1"},
-            {"01.0", "1"}, {"10", "10"}, {"10.0", "10"}, {"09.9", "9.9"}, {"20", "20"}, {"49.9", "49.9"}, {"50.0", "50"}};
+        String[][] told = {{"0", "0"}, {"00", "0"}, {"0.0", "0"}, {"00.0", "0"}, {"0.1", "0.1"}, {"00.9", "0.9"},
+            {"01", "1"}, {"01.0", "1"}, {"10", "10"}, {"10.0", "10"}, {"09.9", "9.9"}, {"20", "20"},
+            {"49.9", "49.9"}, {"50.0", "50"}};
         for (String[] pair : told) {
             number("1", pair[0], "1 " + pair[1]);
         }
