@@ -39,7 +39,28 @@ public final class FaceTest {
         Constructor<?>[] constructors = LayerStacks.class.getDeclaredConstructors();
         checks.due("constructors", constructors.length, 1);
         checks.due("constructor", Modifier.isPublic(constructors[0].getModifiers()), true);
+        hidden(checks);
         checks.end();
+    }
+
+    /** LANGUAGE.md, rule 1: what it says of private methods and of the classes inside. */
+    private static void hidden(Checks checks) {
+        TreeSet<String> face = new TreeSet<>();
+        for (Method method : LayerStacks.class.getMethods()) {
+            face.add(method.getName());
+        }
+        for (Method method : LayerStacks.class.getDeclaredMethods()) {
+            boolean isHidden = Modifier.isPrivate(method.getModifiers());
+            checks.due("a name of its own: " + method.getName(), face.contains(method.getName()), !isHidden);
+        }
+        for (Class<?> inside : LayerStacks.class.getDeclaredClasses()) {
+            int modifiers = inside.getModifiers();
+            boolean isSeen = Modifier.isPublic(modifiers) || Modifier.isProtected(modifiers);
+            checks.due(inside.getName(), Modifier.isStatic(modifiers) && !isSeen, true);
+            for (Method method : inside.getDeclaredMethods()) {
+                checks.due("a name of its own: " + method.getName(), face.contains(method.getName()), false);
+            }
+        }
     }
 
     private static String told(Method method) {
